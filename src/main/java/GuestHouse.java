@@ -699,7 +699,8 @@ public final class GuestHouse {
       freeCount--;
       int sheet = free[freeCount];
       if (away.length < (sheet + 1) * WORDS) {
-        away = Arrays.copyOf(away, Math.max((sheet + 1) * WORDS, 2 * away.length));
+        int doubled = Math.min(2 * away.length, SHEETS * WORDS);
+        away = Arrays.copyOf(away, Math.max((sheet + 1) * WORDS, doubled));
       }
       return sheet;
     }

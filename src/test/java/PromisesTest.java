@@ -222,6 +222,20 @@ public final class PromisesTest {
     due("the least that is free", x.copy(7), 1);
     due("audit", x.audit(), 0);
 
+    begin("promise 9, a copy has the words that wait, in their order");
+    g = started(1, Code.in(1, 0), Code.in(2, 0), Code.in(3, 0), Code.halt());
+    x.input(g, 61);
+    x.input(g, 62);
+    x.input(g, 63);
+    x.run(1);
+    x.copy(g);
+    due("only", x.only(1, 9), 3);
+    told(1, 1, 61);
+    told(1, 2, 62);
+    told(1, 3, 63);
+    told(1, 20, 0);
+    told(0, 20, 2);
+
     begin("promise 10, drop");
     x.guest(2);
     x.guest(2);
@@ -454,6 +468,27 @@ public final class PromisesTest {
     x.copy(4);
     due("audit", x.audit(), 0);
     due("peek", x.peek(3, 64 * 19 + 4), 4019);
+    allFramesWritten();
+  }
+
+  private void allFramesWritten() {
+    begin("terms 6, room to put away all that eight guests of 64 frames can have");
+    x.install(4, 7);
+    for (int g = 0; g < 8; g++) {
+      started(64, Code.set(1, g + 1), Code.write(2, 63, 1), Code.add(1, 1, 8),
+          Code.add(2, 2, 64), Code.word(17, 3, 0, 0, -3));
+    }
+    due("run", x.run(2000), 2000);
+    due("run", x.run(2000), 2000);
+    for (int g = 0; g < 8; g++) {
+      due("only", x.only(g, 1), 1);
+      trapped(g, 5, 1, 64 * 64 + 63);
+      for (int k = 0; k < 64; k++) {
+        due("peek", x.peek(g, 64 * k + 63), 8 * k + g + 1);
+        due("peek", x.peek(g, 64 * k + 62), 0);
+      }
+    }
+    due("audit", x.audit(), 0);
   }
 
   // Terms 2 and 4.
@@ -605,6 +640,12 @@ public final class PromisesTest {
     told(g, 5, 70);
     told(g, 6, 74);
     control(g, Code.COUNT, 75);
+
+    begin("terms 4, WAIT with a word that waits");
+    g = started(1, Code.pause(), Code.halt());
+    x.input(g, 0);
+    due("run", x.run(9), 2);
+    due("HALTED", x.state(g), 3);
 
     begin("terms 4, WAIT");
     g = started(1, Code.set(1, 50), Code.setControl(Code.TIMER, 1), Code.pause(), Code.pause(),
@@ -813,12 +854,26 @@ public final class PromisesTest {
     due("the copy's disk stays", x.disk(1, 960), 0);
     due("audit", x.audit(), 0);
 
+    begin("terms 4, the disk, to a frame that no other guest has");
+    g = started(2, Code.set(1, 1), Code.out(1, 1), Code.write(0, 64, 1), Code.out(0, 2),
+        Code.halt());
+    x.stop(g);
+    x.pokeDisk(g, 0, 50);
+    x.start(g, 0);
+    due("run", x.run(20), 5);
+    due("peek", x.peek(g, 64), 50);
+    due("the other frame stays", x.peek(g, 0), Code.set(1, 1));
+    due("audit", x.audit(), 0);
+
     begin("terms 4, PLACE that is no frame");
     g = started(1, Code.set(1, 1), Code.out(1, 1), Code.out(1, 2), Code.set(2, 2),
         Code.out(2, 2), Code.set(1, -1), Code.out(1, 1), Code.out(1, 2), Code.out(2, 2),
         Code.halt());
+    x.stop(g);
+    x.pokeDisk(g, 0, 5);
+    x.start(g, 0);
     due("run", x.run(20), 10);
-    due("disk", x.disk(g, 0), 0);
+    due("disk", x.disk(g, 0), 5);
     due("peek", x.peek(g, 0), Code.set(1, 1));
     told(g, 22, -1);
     told(g, 23, 0);

@@ -16,6 +16,8 @@ public final class RandomRunsTest {
   private final GuestHouse house = new GuestHouse();
   private final PlainHouse plain = new PlainHouse();
   private final int[] sizes = new int[8];
+  /** Whether the guest that is made now mostly does what MODE 0 may do. */
+  private boolean tame;
 
   private RandomRunsTest(int run, Checks checks) {
     this.run = run;
@@ -93,6 +95,7 @@ public final class RandomRunsTest {
 
   private void fill(int g, int frames) {
     int table = random.nextInt(frames);
+    tame = random.nextBoolean();
     for (int i = 0; i < 64 * frames; i++) {
       int kind = random.nextInt(10);
       boolean inTable = i / 64 >= table && i / 64 < table + 4 && frames > 1;
@@ -102,7 +105,7 @@ public final class RandomRunsTest {
         poke(g, i, instruction(frames));
       }
     }
-    if (random.nextInt(4) != 0) {
+    if (tame || random.nextInt(4) != 0) {
       prologue(g, frames, table);
     }
     for (int i = 0; i < 40; i++) {
@@ -133,7 +136,7 @@ public final class RandomRunsTest {
         poke(g, 64 * table, 7);
       }
     }
-    if (random.nextBoolean()) {
+    if (tame || random.nextBoolean()) {
       poke(g, at, Code.back());
     }
   }
@@ -150,7 +153,8 @@ public final class RandomRunsTest {
     int d = random.nextInt(6) == 0 ? 0 : 1 + random.nextInt(7);
     int a = random.nextInt(8);
     int b = random.nextInt(8);
-    switch (random.nextInt(14)) {
+    boolean common = tame && random.nextInt(12) != 0;
+    switch (common ? 1 + random.nextInt(7) : random.nextInt(15)) {
       case 0:
         return random.nextInt();
       case 1:
@@ -173,7 +177,9 @@ public final class RandomRunsTest {
       case 11:
         return Code.word(random.nextInt(60) == 0 ? 27 : 28, d, a, b, random.nextInt(6) - 1);
       case 12:
-        return Code.word(29, d, a, b, random.nextInt(5) - 1);
+        return Code.word(29, d, pick(7, 7, a), b, pick(-1, 0, 1, 1, 2, 2, 2, 3));
+      case 13:
+        return Code.set(7, random.nextInt(frames + 1));
       default:
         return Code.set(d, pick(random.nextInt(64), address(frames), tableWord(frames)));
     }
