@@ -184,15 +184,17 @@ public final class PromisesTest {
   private void copies() {
     begin("promise 9, copy");
     x.install(4, 10);
-    int g = started(3, Code.set(1, 7), Code.out(1, 0), Code.write(0, 130, 1), Code.call(3));
+    int g = started(3, Code.set(1, 7), Code.out(1, 0), Code.out(1, 1), Code.write(0, 130, 1),
+        Code.call(3));
     x.input(g, 41);
     x.input(g, 42);
-    due("run(4)", x.run(4), 4);
+    due("run(5)", x.run(5), 5);
     due("copy", x.copy(g), 1);
     due("state", x.state(1), 1);
     for (int i = 0; i < 24; i++) {
       told(1, i, x.told(0, i));
     }
+    told(1, 22, 7);
     told(1, 23, 1);
     due("peek", x.peek(1, 130), 7);
     due("out", x.out(1, 0), 7);
