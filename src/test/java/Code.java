@@ -44,6 +44,16 @@ final class Code {
     return word(13, d, a, b, n);
   }
 
+  /** On at itself, and nothing else. */
+  static int loop() {
+    return go(0);
+  }
+
+  /** On at PC + n; no register changes. */
+  static int go(int n) {
+    return word(14, 0, 0, 0, n);
+  }
+
   static int call(int n) {
     return word(19, 0, 0, 0, n);
   }

@@ -1,24 +1,7 @@
 /** Each promise, and each of the terms they lean on, by hand: what is usual, edges, wrong inputs. */
-public final class PromisesTest {
-  private static final int PAGING = 0x80000000;
-  private static final int PRESENT = 1;
-  private static final int W = 2;
-  private static final int U = 4;
-  private static final int USED = 8;
-  private static final int D = 16;
-  private static final int[] NO_GUESTS = {-1, 8, 7, Integer.MIN_VALUE, Integer.MAX_VALUE};
-
-  private final Checks checks;
-  private GuestHouse x;
-  private String part;
-
-  private PromisesTest(Checks checks) {
-    this.checks = checks;
-  }
-
+public final class PromisesTest extends Bench {
   public static void main(String[] args) {
-    Checks checks = new Checks();
-    PromisesTest test = new PromisesTest(checks);
+    PromisesTest test = new PromisesTest();
     test.housekeeping();
     test.guestsAndMemory();
     test.running();
@@ -26,45 +9,7 @@ public final class PromisesTest {
     test.steps();
     test.pages();
     test.devices();
-    checks.end();
-  }
-
-  private void begin(String name) {
-    part = name;
-    x = new GuestHouse();
-  }
-
-  private void due(String what, int got, int want) {
-    checks.due(part + ": " + what, got, want);
-  }
-
-  private void code(int g, int at, int... words) {
-    for (int i = 0; i < words.length; i++) {
-      due("poke(" + g + ", " + (at + i) + ")", x.poke(g, at + i, words[i]), 0);
-    }
-  }
-
-  /** A new guest that runs the words from address 0 on. */
-  private int started(int frames, int... words) {
-    int g = x.guest(frames);
-    code(g, 0, words);
-    due("start", x.start(g, 0), 0);
-    return g;
-  }
-
-  private void told(int g, int what, int want) {
-    due("told(" + g + ", " + what + ")", x.told(g, what), want);
-  }
-
-  private void control(int g, int n, int want) {
-    told(g, 10 + n, want);
-  }
-
-  private void trapped(int g, int cause, int epc, int bad) {
-    control(g, Code.CAUSE, cause);
-    control(g, Code.EPC, epc);
-    control(g, Code.BAD, bad);
-    told(g, 9, 1);
+    test.checks.end();
   }
 
   // Promises 1 and 2, 19.
@@ -529,7 +474,7 @@ public final class PromisesTest {
     jump(Code.word(17, 3, 0, 0, 20), 0, 0, 22, 3);
     jump(Code.word(18, 3, 1, 0, -4), 30, 0, 26, 3);
     jump(Code.word(18, 1, 1, 0, 1), 30, 3, 31, 0);
-    traps();
+    supervisorTraps();
     lines();
   }
 
@@ -551,7 +496,7 @@ public final class PromisesTest {
     control(g, Code.COUNT, 3);
   }
 
-  private void traps() {
+  private void supervisorTraps() {
     begin("terms 2, traps in MODE 1");
     int vector = 40;
     int[] words = {
