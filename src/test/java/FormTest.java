@@ -23,8 +23,15 @@ public final class FormTest {
   private static final String[] RULED_OUT = {
     "\\bthrow\\b", "\\bthrows\\b", "\\btry\\b", "\\bcatch\\b", "\\bsynchronized\\b", "\\bassert\\b",
     "->", "::", "\\bSystem\\.(?!arraycopy\\b)", "\\bRandom\\b", "\\bThread\\b", "\\w+Exact\\b",
-    "import (?!java\\.util\\.Arrays;)", "\\bprotected\\b", "^package\\b"
+    "import (?!java\\.util\\.Arrays;)", "\\bprotected\\b", "^package\\b",
+    "\\bArrays\\.(?!(copyOf|copyOfRange|fill)\\b)", "\\bhashCode\\b", "\\bequals\\b",
+    "\\btoString\\b"
   };
+  private static final int MOST_CLASSES = 12;
+  private static final int MOST_FIELDS = 20;
+  private static final int MOST_PARAMETERS = 7;
+  private static final int MOST_LINES = 60;
+  private static final Path SOURCE = Path.of("src/main/java/GuestHouse.java");
   private static final long ROOM_IN_BYTES = 4L * 7_300_000;
 
   private final Checks checks = new Checks();
@@ -32,7 +39,9 @@ public final class FormTest {
   public static void main(String[] args) throws Exception {
     FormTest test = new FormTest();
     test.face();
+    test.classesInside();
     test.words();
+    test.lengths();
     test.room();
     test.auditSees();
     test.checks.end();
@@ -74,9 +83,59 @@ public final class FormTest {
         Modifier.FINAL | Modifier.PUBLIC);
   }
 
+  private void classesInside() {
+    Class<?>[] inside = GuestHouse.class.getDeclaredClasses();
+    if (inside.length + 1 > MOST_CLASSES) {
+      checks.fail("there are " + (inside.length + 1) + " classes");
+    }
+    sizes(GuestHouse.class);
+    for (Class<?> c : inside) {
+      if (!Modifier.isStatic(c.getModifiers()) || Modifier.isPublic(c.getModifiers())) {
+        checks.fail("a class inside that is not static, or is public: " + c);
+      }
+      checks.due("classes inside " + c, c.getDeclaredClasses().length, 0);
+      sizes(c);
+    }
+  }
+
+  private void sizes(Class<?> c) {
+    int fields = 0;
+    for (Field f : c.getDeclaredFields()) {
+      if (!Modifier.isStatic(f.getModifiers())) {
+        fields++;
+      } else if (!Modifier.isFinal(f.getModifiers()) || f.getType() != int.class) {
+        checks.fail("a static field that is no constant: " + f);
+      }
+    }
+    if (fields > MOST_FIELDS) {
+      checks.fail(c + " has " + fields + " fields");
+    }
+    for (Method m : c.getDeclaredMethods()) {
+      if (m.getParameterCount() > MOST_PARAMETERS) {
+        checks.fail("too many parameters: " + m);
+      }
+    }
+  }
+
+  /** Methods begin and end at the depth of their own braces, two spaces a class. */
+  private void lengths() throws IOException {
+    int begun = 0;
+    int line = 0;
+    for (String text : Files.readAllLines(SOURCE, StandardCharsets.US_ASCII)) {
+      line++;
+      if (text.matches(" {2,4}\\w.*\\) \\{")) {
+        begun = line;
+      } else if (text.matches(" {2,4}\\}") && begun > 0) {
+        if (line - begun + 1 > MOST_LINES) {
+          checks.fail("the method at line " + begun + " has " + (line - begun + 1) + " lines");
+        }
+        begun = 0;
+      }
+    }
+  }
+
   private void words() throws IOException {
-    Path path = Path.of("src/main/java/GuestHouse.java");
-    String text = Files.readString(path, StandardCharsets.US_ASCII);
+    String text = Files.readString(SOURCE, StandardCharsets.US_ASCII);
     text = text.replaceAll("(?s)/\\*.*?\\*/", "").replaceAll("//.*", "");
     for (String word : RULED_OUT) {
       if (Pattern.compile(word, Pattern.MULTILINE).matcher(text).find()) {
@@ -155,6 +214,21 @@ public final class FormTest {
       if (x.audit() <= 0) {
         checks.fail("audit() does not see a wrong " + row + " of a guest");
       }
+    }
+    auditSeesNumber("mode", 2);
+    auditSeesNumber("waiting", 65);
+    auditSeesNumber("waiting", -1);
+    auditSeesNumber("frames", 2);
+  }
+
+  private void auditSeesNumber(String name, int v) throws ReflectiveOperationException {
+    GuestHouse x = busy();
+    Object guest = ((Object[]) valueOf(x, "guests"))[1];
+    Field field = guest.getClass().getDeclaredField(name);
+    field.setAccessible(true);
+    field.setInt(guest, v);
+    if (x.audit() <= 0) {
+      checks.fail("audit() does not see " + v + " as a guest's " + name);
     }
   }
 

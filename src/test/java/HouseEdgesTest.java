@@ -5,7 +5,8 @@ import java.util.List;
 public final class HouseEdgesTest extends Bench {
   private static final String NEXT =
       "is LEFT 0, or the current guest none or not RUNNING, then the next one by number that is"
-      + " RUNNING (behind 7 comes 0; the current one itself last) is current, and LEFT is the slice";
+      + " RUNNING (behind 7 comes 0; the current one itself last) is current, and LEFT is the"
+      + " slice";
   private static final String NONE_RUNS = "is there none, no step is done.";
   private static final String ONE_LESS =
       "Then the current guest does a step, and LEFT is 1 less.";

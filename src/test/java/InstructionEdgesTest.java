@@ -81,6 +81,24 @@ public final class InstructionEdgesTest extends Bench {
     value(Code.word(20, 3, 7, 7, -1), 5, 6, 4);
   }
 
+  @Sentence(in = "terms 4",
+      says = "OP bits 26 to 31, d 23 to 25, a 20 to 22, b 17 to 19, n bits 0 to 16 with sign.")
+  void registersThatAnInstructionDoesNotSet() {
+    int[] ops = {12, 14, 15, 16, 19, 22, 23, 24, 25, 26, 27, 29};
+    for (int op : ops) {
+      for (int n : new int[] {0, 1}) {
+        int g = withNumbers(20, 30, Code.word(op, 3, 1, 2, n));
+        x.input(g, 77);
+        x.input(g, 78);
+        does(g, 1);
+        told(g, 1, 20);
+        told(g, 2, 30);
+        told(g, 3, 0);
+        told(g, 20, 2);
+      }
+    }
+  }
+
   // Sums.
 
   @Sentence(in = "terms 4", says = "2 and. 3 or. 4 xor.")
@@ -216,7 +234,9 @@ public final class InstructionEdgesTest extends Bench {
   @Sentence(in = "terms 4",
       says = "14, 15, 16: on at PC + n if a is b, is not b, is below b (with sign).")
   void jumpsIf() {
-    int[][] numbers = {{5, 5}, {5, 6}, {6, 5}, {MIN, MAX}, {MAX, MIN}, {-1, 0}, {0, -1}, {MIN, MIN}};
+    int[][] numbers = {
+      {5, 5}, {5, 6}, {6, 5}, {MIN, MAX}, {MAX, MIN}, {-1, 0}, {0, -1}, {MIN, MIN}
+    };
     for (int[] ab : numbers) {
       for (int n : new int[] {7, 0, -4, -5, MOST_N, LEAST_N}) {
         int there = 4 + n;
@@ -462,6 +482,16 @@ public final class InstructionEdgesTest extends Bench {
       does(g, 1);
       told(g, 8, pc);
     }
+  }
+
+  @Sentence(in = "terms 4", says = BACK)
+  void backLeavesTheCache() {
+    int g = guestWithPages(new Program().control(Code.EPC, 40), Code.back());
+    does(g, 1);
+    told(g, 8, 40);
+    due("cached(0)", x.cached(g, 0), 1);
+    due("cached(9)", x.cached(g, 9), 3);
+    due("cached(255)", x.cached(g, 255), 2);
   }
 
   /** Pages 0, 9 and 255 are in the cache, with 1, 3 and 2; r2 is 0. */
@@ -715,7 +745,8 @@ public final class InstructionEdgesTest extends Bench {
       int g = withDisk(2, numbers[i]);
       goesOn(g);
       int s = sectors[i];
-      words(g, 100, 200, new int[] {s == 0 ? 200 : 1000, s == 14 ? 200 : 2000, s == 15 ? 200 : 3000});
+      int[] want = {s == 0 ? 200 : 1000, s == 14 ? 200 : 2000, s == 15 ? 200 : 3000};
+      words(g, 100, 200, want);
     }
   }
 
@@ -769,6 +800,23 @@ public final class InstructionEdgesTest extends Bench {
     goesOn(g);
     told(g, 4, 44);
     state(g, RUNNING);
+  }
+
+  @Sentence(in = "terms 4", says = DISK)
+  void aSectorToAFrameThatNoneHasWritten() {
+    int g = x.guest(3);
+    int other = x.guest(3);
+    x.pokeDisk(g, 64 + 5, 99);
+    ready(g, new Program().load(1, 2).load(2, 2).then(Code.out(1, 1)), Code.out(2, 2));
+    due("copy", x.copy(g), 2);
+    goesOn(g);
+    due("peek(133)", x.peek(g, 133), 99);
+    due("its other frame", x.peek(g, 64 + 5), 0);
+    due("the other guest's frame", x.peek(other, 133), 0);
+    due("the copy's frame", x.peek(2, 133), 0);
+    due("a new guest", x.guest(3), 3);
+    due("its frame", x.peek(3, 133), 0);
+    due("audit", x.audit(), 0);
   }
 
   @Sentence(in = "terms 4", says = DISK)

@@ -20,8 +20,8 @@ public final class PagesEdgesTest extends Bench {
   private static final String NOT_PRESENT =
       "Has it bit 0 not, or is its frame (bits 8 to 13) not below F: PAGE TRAP.";
   private static final String FILLED =
-      "Else bit 3 of it becomes 1 in memory, and the cache has its frame, and its bits 1 (W), 2 (U),"
-      + " 4 (D).";
+      "Else bit 3 of it becomes 1 in memory, and the cache has its frame, and its bits 1 (W), 2"
+      + " (U), 4 (D).";
   private static final String NOT_D =
       "A WRITE, and not D: bit 4 of the table's word (as it is then) becomes 1 in memory, and D in"
       + " the cache.";

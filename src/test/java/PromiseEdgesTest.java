@@ -8,21 +8,22 @@ public final class PromiseEdgesTest extends Bench {
       "first of these: -14 no such guest; -1 it is not STOPPED; -2 no such address.";
   private static final String POKE_DISK = "The same of word i (0 .. 1023) of its disk.";
   private static final String START =
-      "A STOPPED guest is RUNNING from pc on: registers, controls 0 to 8, PLACE 0, MODE 1, the cache"
-      + " empty (memory, disk, what came in and was put out stay): 0; -14; -1 it is not STOPPED.";
+      "A STOPPED guest is RUNNING from pc on: registers, controls 0 to 8, PLACE 0, MODE 1, the"
+      + " cache empty (memory, disk, what came in and was put out stay): 0; -14; -1 it is not"
+      + " STOPPED.";
   private static final String STOP =
       "A guest is STOPPED (also if it was), and all else of it as it is: 0; -14.";
   private static final String INPUT =
       "A word comes in for a guest, in whatever state; is it WAITING, it is RUNNING: 0; -14; -12"
       + " there are 64.";
   private static final String COPY =
-      "A new guest that is in all as this one is: its number, the least that is free; -14; -12 there"
-      + " are eight.";
+      "A new guest that is in all as this one is: its number, the least that is free; -14; -12"
+      + " there are eight.";
   private static final String RUN =
       "The house does at most n steps (0 .. 2000): how many were done; -1 for another n.";
   private static final String ONLY =
-      "The guest does at most n steps (0 .. 2000), as long as it is RUNNING (current and LEFT stay as"
-      + " they are): how many; -14 no such guest, else -1 for another n.";
+      "The guest does at most n steps (0 .. 2000), as long as it is RUNNING (current and LEFT stay"
+      + " as they are): how many; -14 no such guest, else -1 for another n.";
   private static final String TOLD =
       "traps that it had since it was last started, or made (23); 0 for no such guest, or another"
       + " number. (A copy has its guest's number of traps.)";
@@ -480,6 +481,27 @@ public final class PromiseEdgesTest extends Bench {
   }
 
   @Sentence(in = "promise 9", says = COPY)
+  void copyHasTheWordsThatWaitInTheirOrder() {
+    int g = started(1, Code.in(1, 0), Code.out(1, 0), Code.go(-2));
+    for (int i = 0; i < 64; i++) {
+      due("input", x.input(g, 100 + i), 0);
+    }
+    does(g, 3 * 40);
+    for (int i = 0; i < 40; i++) {
+      due("input", x.input(g, 164 + i), 0);
+    }
+    due("copy", x.copy(g), 1);
+    does(1, 3 * 64);
+    told(1, 20, 0);
+    told(0, 20, 64);
+    for (int i = 0; i < 104; i++) {
+      due("out(" + i + ") of the copy", x.out(1, i), 100 + i);
+    }
+    does(0, 3 * 64);
+    due("out(103) of the first", x.out(0, 103), 203);
+  }
+
+  @Sentence(in = "promise 9", says = COPY)
   void copyLeavesWhoseTurnItIs() {
     started(1, Code.loop());
     due("run(3)", x.run(3), 3);
@@ -568,6 +590,7 @@ public final class PromiseEdgesTest extends Bench {
   @Sentence(in = "promise 12", says = ONLY)
   void onlyOfAnotherNumber() {
     for (int s = STOPPED; s <= HALTED; s++) {
+      anew();
       int g = guestIn(s);
       int[] before = allTold(g);
       for (int n : OTHER_COUNTS) {

@@ -1,4 +1,4 @@
-/** Each promise, and each of the terms they lean on, by hand: what is usual, edges, wrong inputs. */
+/** Each promise, and each of the terms they lean on, by hand, as calls follow in common use. */
 public final class PromisesTest extends Bench {
   public static void main(String[] args) {
     PromisesTest test = new PromisesTest();

@@ -609,6 +609,22 @@ public final class TermsEdgesTest extends Bench {
   }
 
   @Sentence(in = "terms 2",
+      says = "CAUSE is c, EPC is PC, BAD the number (0 if none is told)")
+  void badIsZeroBehindATrapThatToldANumber() {
+    int g = x.guest(1);
+    x.input(g, 1);
+    int at = ready(g, new Program(), Code.call(33), Code.set(1, FOR_ARRIVALS | ON),
+        Code.setControl(Code.STATUS, 1));
+    int other = started(1, Code.read(1, 0, 99));
+    traps(g, 9, 33);
+    traps(other, 5, 99);
+    x.stop(g);
+    due("start", x.start(g, at + 1), 0);
+    does(g, 2);
+    traps(g, 17, 0);
+  }
+
+  @Sentence(in = "terms 2",
       says = "ON BEFORE is ON, MODE BEFORE is MODE, ON 0, MODE 1, PC VECTOR.")
   void statusBehindATrapInMode1() {
     int[] before = {
