@@ -804,19 +804,25 @@ public final class InstructionEdgesTest extends Bench {
 
   @Sentence(in = "terms 4", says = DISK)
   void aSectorToAFrameThatNoneHasWritten() {
-    int g = x.guest(3);
-    int other = x.guest(3);
-    x.pokeDisk(g, 64 + 5, 99);
-    ready(g, new Program().load(1, 2).load(2, 2).then(Code.out(1, 1)), Code.out(2, 2));
-    due("copy", x.copy(g), 2);
-    goesOn(g);
-    due("peek(133)", x.peek(g, 133), 99);
-    due("its other frame", x.peek(g, 64 + 5), 0);
-    due("the other guest's frame", x.peek(other, 133), 0);
-    due("the copy's frame", x.peek(2, 133), 0);
-    due("a new guest", x.guest(3), 3);
-    due("its frame", x.peek(3, 133), 0);
-    due("audit", x.audit(), 0);
+    for (int place = 1; place <= 2; place++) {
+      anew();
+      x.install(4, 10);
+      int g = x.guest(3);
+      int other = x.guest(3);
+      int at = 64 * place + 5;
+      x.pokeDisk(g, 64 + 5, 99);
+      ready(g, new Program().load(1, place).load(2, 2).then(Code.out(1, 1)), Code.out(2, 2));
+      due("copy", x.copy(g), 2);
+      goesOn(g);
+      due("its frame", x.peek(g, at), 99);
+      due("its other frame", x.peek(g, 64 * (3 - place) + 5), 0);
+      due("the other guest's frame", x.peek(other, at), 0);
+      due("the copy's frame", x.peek(2, at), 0);
+      due("a new guest", x.guest(3), 3);
+      due("the new guest's frame", x.peek(3, at), 0);
+      due("its frame again", x.peek(g, at), 99);
+      due("audit", x.audit(), 0);
+    }
   }
 
   @Sentence(in = "terms 4", says = DISK)
