@@ -765,7 +765,8 @@ public final class GuestHouse {
     }
 
     private int countWrongFrames() {
-      int wrong = 0;
+      int wrong = hand < 0 || hand >= frames ? 1 : 0;
+      wrong += opened < 0 || opened > frames ? 1 : 0;
       for (int f = 0; f < MOST_HOST_FRAMES; f++) {
         int sheet = owner[f];
         boolean right = sheet == NONE || f < frames && isSheet(sheet) && where[sheet] == f;
@@ -774,16 +775,21 @@ public final class GuestHouse {
       return wrong;
     }
 
+    /** A sheet that were free twice would be two guests' own. */
     private int countWrongFree() {
       int wrong = 0;
-      int unused = 0;
-      for (int s = 0; s < SHEETS; s++) {
-        unused += uses[s] == 0 ? 1 : 0;
-      }
+      Arrays.fill(seen, 0);
       for (int i = 0; i < freeCount && i < SHEETS; i++) {
-        wrong += isSheet(free[i]) && uses[free[i]] == 0 ? 0 : 1;
+        if (isSheet(free[i])) {
+          seen[free[i]]++;
+        } else {
+          wrong++;
+        }
       }
-      return wrong + Math.abs(unused - freeCount);
+      for (int s = 0; s < SHEETS; s++) {
+        wrong += seen[s] == (uses[s] == 0 ? 1 : 0) ? 0 : 1;
+      }
+      return wrong;
     }
   }
 
