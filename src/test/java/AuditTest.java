@@ -165,6 +165,29 @@ public final class AuditTest extends Bench {
     due("audit", x.audit(), 0);
   }
 
+  /** Nothing of a house with many frames, however far it had come, is left in one with few. */
+  @Sentence(in = "promise 20", says = "0 in a right system")
+  void aHouseAnewWithFewerFrames() {
+    for (int steps = 1200; steps <= 2000; steps += 50) {
+      anew();
+      x.install(256, 3);
+      int g = started(64, Code.write(1, 60, 1), Code.add(1, 1, WORDS), Code.go(-2));
+      for (int i = 1; i < 8; i++) {
+        due("copy", x.copy(g), i);
+      }
+      x.only(g, 3 * 60);
+      due("run", x.run(steps), steps);
+      due("audit of the old house", x.audit(), 0);
+      x.install(4, 3);
+      due("audit of the new house", x.audit(), 0);
+      due("guest", x.guest(64), 0);
+      for (int k = 0; k < 64; k++) {
+        due("poke", x.poke(0, k * WORDS + k, k + 1), 0);
+      }
+      due("audit of the new house in use", x.audit(), 0);
+    }
+  }
+
   /** Sheets that are shared, alone, put away, in memory and free, and a guest with pages. */
   private void busy() {
     anew();
