@@ -8,11 +8,11 @@ public final class AuditTest extends Bench {
   private static final String SAYS =
       "How much in the host's memory and tables is not as it must be";
   private static final int HOST_FRAMES = 6;
-  private static final int GUEST_FRAMES = 5;
+  private static final int GUEST_FRAMES = 6;
   private static final int WORDS = 64;
   private static final int NONE = -1;
   private static final int BLANK = 0;
-  private static final int TABLE = 4;
+  private static final int TABLE = 5;
   /** Stands where a guest's number stands for a table of a guest. */
   private static final int HOST = -1;
 
